@@ -812,7 +812,7 @@ public final class BarrowNights {
         private final int[] dreams = new int[MOST];
         private final int[] row = new int[MOST];
         private final int[] first = new int[MOST];
-        private final int[] inside = new int[MOST];
+        private final int[] left = new int[MOST];
         private final int[] latest = new int[MOST];
         private int ways;
         private boolean firstOnly;
@@ -823,7 +823,7 @@ public final class BarrowNights {
 
         private void search(Down down, boolean oneIsEnough) {
             for (int b = 0; b < down.barrows; b++) {
-                inside[b] = 0;
+                left[b] = down.holdsOf(b);
                 latest[b] = LANDLORD + b;
             }
             ways = 0;
@@ -839,7 +839,7 @@ public final class BarrowNights {
                 return;
             }
             for (int b = 0; b < down.barrows; b++) {
-                if (inside[b] < down.holdsOf(b) && isTold(w, latest[b])) layIn(down, w, b);
+                if (left[b] > 0 && isTold(w, latest[b])) layIn(down, w, b);
             }
             if (isTold(w, NO_DREAM)) {
                 row[w] = down.barrows;
@@ -849,12 +849,12 @@ public final class BarrowNights {
 
         private void layIn(Down down, int w, int b) {
             int before = latest[b];
-            inside[b]++;
+            left[b]--;
             latest[b] = w;
             row[w] = b;
             lay(down, w + 1);
             latest[b] = before;
-            inside[b]--;
+            left[b]++;
         }
 
         private boolean isTold(int w, int dream) {

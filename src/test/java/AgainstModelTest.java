@@ -83,8 +83,8 @@ public final class AgainstModelTest {
         int[] row = new int[2 * n];
         for (int a = 0; a < n; a++) {
             int die = chance.nextInt(10);
-            row[2 * a + 1] = die < 5 ? about(0, Math.max(0, x.many(0) - 1)) : die < 8 ? 8 : 9;
-            row[2 * a] = row[2 * a + 1] == 8 ? about(0, 9) : about(0, Math.max(0, x.many(1) - 1));
+            row[2 * a + 1] = die < 5 ? about(0, Math.max(0, m.many(0) - 1)) : die < 8 ? 8 : 9;
+            row[2 * a] = row[2 * a + 1] == 8 ? about(0, 9) : about(0, Math.max(0, m.many(1) - 1));
         }
         int k = chance.nextInt(4);
         int lane = chance.nextInt(3);
@@ -100,7 +100,7 @@ public final class AgainstModelTest {
     }
 
     private void tellDreams() {
-        int[] row = new int[Math.max(1, x.many(1)) + chance.nextInt(2)];
+        int[] row = new int[Math.max(1, m.many(1)) + chance.nextInt(2)];
         for (int w = 0; w < row.length; w++) {
             int die = chance.nextInt(10);
             row[w] = die < 5 ? -9 : die < 7 ? 99 : die < 9 ? about(10, 14) : about(0, 4);

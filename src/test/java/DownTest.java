@@ -8,6 +8,7 @@ public final class DownTest {
         textKeepsAllWhenBroken();
         textMakesAllAnew();
         downFromOtherLanesAndPlaces();
+        downOfAWholeSheet();
         downRefusals();
         downFaults();
         ofBarrow();
@@ -132,6 +133,19 @@ public final class DownTest {
         BarrowNights y = new BarrowNights();
         Due.row(y, 0, 2, 'd' + 256, ';');
         Due.is("ints are not cut to codes", y.down(0, 2, 0, 2), -100);
+    }
+
+    private static void downOfAWholeSheet() {
+        String text = "d;r111;l222;g333;r444;l155,111,222,333,444,555";
+        BarrowNights x = new BarrowNights();
+        int[] codes = new int[60];
+        for (int i = 0; i < text.length(); i++) codes[14 + i] = text.charAt(i);
+        Due.row(x, 3, 0, codes);
+        Due.is("the last 46 of 60 cells", x.down(3, 0, 14, 46), 5);
+        Due.is("all 60 cells", x.down(3, 0, 0, 60), -100);
+        for (int i = 0; i < 60; i++) codes[i] = i < text.length() ? text.charAt(i) : ',';
+        Due.row(x, 3, 0, codes);
+        Due.is("all 60 cells, from a text on", x.down(3, 0, 0, 60), -146);
     }
 
     private static void downRefusals() {

@@ -18,28 +18,37 @@ public final class SheetsTest {
     }
 
     private static void sheet() {
-        BarrowNights x = new BarrowNights();
         for (int k = 0; k < 4; k++) {
-            for (int lane = 0; lane < 3; lane++) {
-                Due.makeFault(x);
-                Due.faulted(x, "sheet", x.sheet(k, lane, 60), 1, 0);
-                for (int i = 0; i < 60; i++) Due.is("cells are 0", x.cell(k, i, lane), 0);
-                for (int i = 0; i < 60; i++) Due.is("put", x.put(k, i, i + 1), 1);
-                for (int i = 0; i < 60; i++) Due.is("cell", x.cell(k, i, lane), i + 1);
-            }
-            Due.is("a shorter one", x.sheet(k, 2, 2), 1);
-            Due.is("0 again", x.cell(k, 0, 2), 0);
-            Due.is("0 again", x.cell(k, 1, 2), 0);
-            Due.is("no more cells", x.cell(k, 2, 2), LOST);
-            Due.is("a longer one", x.sheet(k, 2, 60), 1);
-            Due.is("0 there too", x.cell(k, 59, 2), 0);
-            Due.is("one of none", x.sheet(k, 0, 0), 1);
-            Due.is("it has a row", x.lose(k), 1);
-            Due.is("put of one sheet alone", x.sheet(k, 0, 60), 1);
+            for (int lane = 0; lane < 3; lane++) wholeSheet(k, lane);
         }
-        Due.is("put", x.put(1, 5, 5), 1);
-        Due.is("the one ahead", x.cell(0, 5, 0), 0);
-        Due.is("the one behind", x.cell(2, 5, 0), 0);
+        BarrowNights x = new BarrowNights();
+        for (int k = 0; k < 4; k++) Due.is("sheet", x.sheet(k, 0, 60), 1);
+        Due.is("put", x.put(1, 59, 5), 1);
+        Due.is("put", x.put(1, 0, 6), 1);
+        for (int k = 0; k < 4; k++) {
+            Due.is("the last cell of " + k, x.cell(k, 59, 0), k == 1 ? 5 : 0);
+            Due.is("the first cell of " + k, x.cell(k, 0, 0), k == 1 ? 6 : 0);
+        }
+    }
+
+    private static void wholeSheet(int k, int lane) {
+        BarrowNights x = new BarrowNights();
+        Due.makeFault(x);
+        Due.faulted(x, "sheet", x.sheet(k, lane, 60), 1, 0);
+        for (int i = 0; i < 60; i++) Due.is("cells are 0", x.cell(k, i, lane), 0);
+        for (int i = 0; i < 60; i++) Due.is("put", x.put(k, i, i + 1), 1);
+        for (int i = 0; i < 60; i++) Due.is("cell", x.cell(k, i, lane), i + 1);
+        Due.is("a shorter one", x.sheet(k, lane, 2), 1);
+        Due.is("0 again", x.cell(k, 0, lane), 0);
+        Due.is("0 again", x.cell(k, 1, lane), 0);
+        Due.is("no more cells", x.cell(k, 2, lane), LOST);
+        Due.is("a longer one", x.sheet(k, lane, 60), 1);
+        Due.is("0 there too", x.cell(k, 59, lane), 0);
+        Due.is("one of another lane", x.sheet(k, (lane + 1) % 3, 3), 1);
+        Due.is("it is of that lane", x.cell(k, 2, (lane + 1) % 3), 0);
+        Due.faulted(x, "and not of the old one", x.cell(k, 2, lane), LOST, 2);
+        Due.is("one of none", x.sheet(k, lane, 0), 1);
+        Due.is("it has a row", x.lose(k), 1);
     }
 
     private static void sheetRefusals() {
