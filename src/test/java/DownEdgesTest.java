@@ -23,6 +23,7 @@ public final class DownEdgesTest {
         sixthWalker();
         barrowBehindWalker();
         eachCodeAtEachPlace();
+        eachDigitIsItsNumber();
         endsTooSoon();
         firstOfSeveralFaults();
         codesAreNotCut();
@@ -292,6 +293,19 @@ public final class DownEdgesTest {
                 int want = !fits ? -100 - p : p == 6 && code == ';' ? -107 : 1;
                 Due.is("down with code " + code + " at " + p, x.down(0, 0, 0, 10), want);
             }
+        }
+    }
+
+    /** "a digit 0 .. 9 (PENCE)" and the like, from the least to the greatest */
+    private static void eachDigitIsItsNumber() {
+        for (int n = 0; n <= 9; n++) {
+            int beds = Math.max(1, Math.min(n, 4));
+            int reach = Math.max(1, n);
+            BarrowNights x = Due.on("d;r" + beds + n + (9 - n) + "," + n + (9 - n) + reach);
+            int[] barrow = {0, beds, n, 9 - n};
+            int[] walker = {n, 9 - n, reach};
+            for (int what = 0; what < 4; what++) Due.is("ofBarrow, what " + what + ", by " + n, x.ofBarrow(0, what), barrow[what]);
+            for (int what = 0; what < 3; what++) Due.is("ofWalker, what " + what + ", by " + n, x.ofWalker(0, what), walker[what]);
         }
     }
 

@@ -43,6 +43,8 @@ public final class NightsEdgesTest {
         seasonOfNoSuchWalker();
         seasonNightsAndPutOut();
         seasonFromNow();
+        seasonOfTheMost();
+        seasonBehindSeason();
         Due.end();
     }
 
@@ -528,5 +530,31 @@ public final class NightsEdgesTest {
         season("a PLACE is taken along", 1, -9, 0, 9, 0, 0);
         season("MEANS are those that are left", 3, 14);
         season("COLD goes on from what it is", 23, 3, 1, 8);
+    }
+
+    /** Five WALKERS with 99 MEANS each, and 20 times 9 nights. */
+    private static void seasonOfTheMost() {
+        BarrowNights x = Due.on("d;l400,001,001,001,001,001");
+        for (int w = 0; w < 5; w++) Due.is("earn", x.earn(w, 99), 0);
+        int[] pairs = new int[40];
+        for (int a = 0; a < 40; a++) pairs[a] = a % 2 == 0 ? 9 : 8;
+        Due.row(x, 1, 0, pairs);
+        Due.is("MEANS of all five", x.season(1, 0, 0, 20, 3), 495);
+        Due.is("COLD of the last", x.season(1, 0, 0, 20, 24), 180);
+        Due.is("a new down, of one", Due.tellDown(x, "d;r100,701"), 1);
+        Due.is("MEANS of the one", x.season(1, 0, 0, 0, 3), 7);
+    }
+
+    /** Nothing of a season is left for the next: not who was PUT OUT, not its FIRST WRONG. */
+    private static void seasonBehindSeason() {
+        BarrowNights x = Edge.busy();
+        Due.row(x, 3, 2, 4, 8, 0, 9);
+        for (int t = 0; t < 3; t++) {
+            Due.is("PUT OUT", x.season(3, 2, 0, 1, 2), 1);
+            Due.is("first wrong: it was PUT OUT", x.season(3, 2, 0, 2, 1), 1);
+            Due.is("no first wrong", x.season(3, 2, 0, 1, 1), -9);
+            Due.is("none PUT OUT in none", x.season(3, 2, 0, 0, 2), 0);
+            Due.is("COLD", x.season(3, 2, 0, 1, 20), 1);
+        }
     }
 }
