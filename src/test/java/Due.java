@@ -6,6 +6,15 @@ final class Due {
     /** One broken promise can make thousands of wrong answers; the first ones are enough to find it. */
     private static final int MOST_PRINTED = 200;
 
+    /** A call that does not end is wrong, too: a test takes seconds, so minutes are plenty. */
+    private static final long MOST_MILLIS = 300_000;
+
+    static {
+        Thread watch = new Thread(Due::haltLate);
+        watch.setDaemon(true);
+        watch.start();
+    }
+
     private static int right = 0;
     private static int wrong = 0;
 
@@ -55,6 +64,21 @@ final class Due {
     static void makeFault(BarrowNights x) {
         is("a size below 0", x.sheet(0, 0, -1), -14);
         is("its fault()", x.fault(), 4);
+    }
+
+    private static void haltLate() {
+        try {
+            Thread.sleep(MOST_MILLIS);
+        } catch (InterruptedException e) {
+            return;
+        }
+        System.out.println("the test did not end");
+        Runtime.getRuntime().halt(1);
+    }
+
+    /** How many answers were looked at. */
+    static long answers() {
+        return right + (long) wrong;
     }
 
     static void end() {
