@@ -52,6 +52,11 @@ final class PromisesHold {
                 Due.is("WALKERS", x.many(1), 5);
             }
         }
+        int[] sixty = (Due.FOUR + "x".repeat(23)).chars().toArray();
+        BarrowNights x = new BarrowNights();
+        Due.row(x, 3, 0, sixty);
+        Due.is("all of 60 cells", x.down(3, 0, 0, 60), -137);
+        Due.is("37 of 60 cells", x.down(3, 0, 0, 37), 4);
     }
 
     static void downFirstFault() {
@@ -229,6 +234,10 @@ final class PromisesHold {
         season(3, 3 + 3 + 8 + 0);
         season(3, 1 + 3 + 8 + 0, 2, 8);
         season(3, 0 + 3 + 8 + 0, 9, 8);
+        BarrowNights x = Due.on("d" + ";r110".repeat(5) + ",101,201,301,401,501");
+        for (int w = 0; w < 5; w++) Due.is("lodge", x.lodge(w, w), 1);
+        Due.row(x, 3, 0, 1, 8);
+        Due.is("MEANS of five", x.season(3, 0, 0, 1, 3), 0 + 1 + 2 + 3 + 4);
     }
 
     static void seasonBarrow() {
@@ -259,6 +268,8 @@ final class PromisesHold {
         int[] twenty = new int[40];
         for (int a = 0; a < 20; a++) twenty[2 * a + 1] = 8;
         season(0, 3, twenty);
+        twenty[38] = 9;
+        season(22, 2 + 9, twenty);
     }
 
     static void seasonFaults() {
@@ -460,6 +471,22 @@ final class PromisesHold {
                 Due.is("it has 3 cells", x.cell(k, 3, lane), LOST);
                 Due.is("fault()", x.fault(), INDEX);
             }
+        }
+        for (int k = 0; k <= 3; k++) sheetOfSixtyAmongOthers(k);
+    }
+
+    /** The others keep their rows of 60 cells. */
+    private static void sheetOfSixtyAmongOthers(int k) {
+        BarrowNights x = new BarrowNights();
+        for (int other = 0; other <= 3; other++) {
+            Due.is("60 cells", x.sheet(other, 2, 60), 1);
+            Due.is("the first", x.put(other, 0, 1 + other), 1);
+            Due.is("the last", x.put(other, 59, 11 + other), 1);
+        }
+        Due.is("a new row", x.sheet(k, 2, 60), 1);
+        for (int other = 0; other <= 3; other++) {
+            Due.is("the first", x.cell(other, 0, 2), other == k ? 0 : 1 + other);
+            Due.is("the last", x.cell(other, 59, 2), other == k ? 0 : 11 + other);
         }
     }
 

@@ -109,13 +109,33 @@ final class TermsHold {
         for (int w = 0; w < 2; w++) {
             for (int what = 0; what < 3; what++) Due.is("of WALKER " + w, x.ofWalker(w, what), walkers[w][what]);
         }
-        Due.is("REACH 0", x.put(2, text.length - 1, 48), 1);
-        Due.is("REACH 0", x.down(2, 1, 0, text.length), -123);
-        for (int code = 0; code < 128; code++) {
-            boolean letter = code == 114 || code == 108 || code == 103;
-            Due.is("the letter", x.put(2, 2, code), 1);
-            Due.is("a letter " + code, x.down(2, 1, 0, text.length), letter ? -123 : -102);
+        for (int place = 0; place < 10; place++) codesAt(place);
+    }
+
+    /** In the TEXT d;r100,001 each code of a byte, and one that would be right if it were cut, at one place. */
+    private static void codesAt(int place) {
+        int[] text = {100, 59, 114, 49, 48, 48, 44, 48, 48, 49};
+        int[][] goOn = {{100}, {59}, {103, 108, 114}, digits(1, 4), digits(0, 9), digits(0, 9), {44}, digits(0, 9), digits(0, 9), digits(1, 9)};
+        int right = text[place];
+        for (int code = -128; code <= 128; code++) {
+            text[place] = code == 128 ? 256 + right : code;
+            BarrowNights x = new BarrowNights();
+            Due.row(x, 2, 2, text);
+            // With a ; in place of the , the TEXT goes on with a BARROW, and breaks at the next code.
+            int want = place == 6 && code == 59 ? -107 : -100 - place;
+            Due.is("code " + text[place] + " at " + place, x.down(2, 2, 0, 10), has(goOn[place], text[place]) ? 1 : want);
         }
+    }
+
+    private static int[] digits(int least, int most) {
+        int[] codes = new int[most - least + 1];
+        for (int d = least; d <= most; d++) codes[d - least] = 48 + d;
+        return codes;
+    }
+
+    private static boolean has(int[] all, int one) {
+        for (int other : all) if (other == one) return true;
+        return false;
     }
 
     static void kinds() {
@@ -378,6 +398,7 @@ final class TermsHold {
         housed(Due.on("d;r110;r110;r110,901,901"), 2, 2, 0, 1);
         housed(Due.on("d;r110,901,901"), 1, 1, 0, -9);
         housed(Due.on("d;r110;r120,901,901,901"), 2, 3, 0, 1, -9);
+        housed(Due.on("d" + ";r100".repeat(5) + ",001".repeat(5)), 5, 0, 0, 1, 2, 3, 4);
     }
 
     static void ploughed() {
@@ -395,6 +416,7 @@ final class TermsHold {
         for (int w = 0; w < 3; w++) {
             for (int place = 0; place <= 9; place++) Due.is("WAY of " + w + " to " + place, x.way(w, place), want[w][place]);
         }
+        Due.is("two at one PLACE", Due.on("d;r103;l203,003").way(0, 6), 1);
     }
 
     static void wayIsNoFartherFromTheOneAhead() {
@@ -484,6 +506,8 @@ final class TermsHold {
         lain(x, dreams(-9, -9, -9), 13, 0, 1, -9);
         lain(x, dreams(-9, 10, -9), 3, 1, 0, -9);
         lain(x, dreams(-9, -9, 11), 3, 0, -9, 1);
+        BarrowNights y = Due.on("d" + ";r100".repeat(5) + ",001".repeat(5));
+        lain(y, dreams(14, -9, -9, -9, -9), 209, 4, 0, 1, 2, 3);
     }
 
     static void lainReachPenceAside() {
